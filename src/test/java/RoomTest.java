@@ -1,0 +1,58 @@
+import com.sun.management.ThreadMXBean;
+import java.lang.management.ManagementFactory;
+
+/** How much of the room an object takes, and the calls that make the longest texts. */
+public final class RoomTest {
+    private static final long OBJECT_BYTES = 60_000;
+    private static final long CALL_BYTES = 1_500;
+
+    private static final ThreadMXBean THREADS = (ThreadMXBean) ManagementFactory.getThreadMXBean();
+    private static int wrong = 0;
+
+    public static void main(String[] args) {
+        Swaphouse x = allMoves();
+        ask(x);
+        long atStart = used();
+        x = allMoves();
+        long made = used();
+        for (int i = 0; i < 100; i++) {
+            ask(x);
+        }
+        long asked = used();
+        atMost("an object", made - atStart, OBJECT_BYTES);
+        atMost("a call", (asked - made) / 600, CALL_BYTES);
+        System.out.println("RoomTest: " + (made - atStart) + " bytes an object, "
+                + (asked - made) / 600 + " bytes a call of the dearest");
+        if (wrong != 0) {
+            System.exit(1);
+        }
+    }
+
+    private static Swaphouse allMoves() {
+        Swaphouse x = new Swaphouse();
+        x.points(7);
+        x.turn(0, 1);
+        x.exchange(1, 0, 1);
+        return x;
+    }
+
+    private static void ask(Swaphouse x) {
+        x.digest();
+        x.list(63, 5000);
+        x.text(0);
+        x.rings(5);
+        x.colourings(63, 3, 1);
+        x.isIn(63, 0, 1);
+    }
+
+    private static long used() {
+        return THREADS.getThreadAllocatedBytes(Thread.currentThread().getId());
+    }
+
+    private static void atMost(String what, long bytes, long most) {
+        if (bytes > most) {
+            wrong++;
+            System.out.println(what + " takes " + bytes + " bytes, at most due are " + most);
+        }
+    }
+}
