@@ -1137,14 +1137,14 @@ public final class Swaphouse {
             for (int i = found.length() - 1; i < MOST_COLOURINGS && i < found.length(); i++) {
                 for (int cell = 0; cell < cells.length; cell++) {
                     if (has(set, cell)) {
-                        int made = made(found.thing(i), cells[cell]);
+                        int made = madeBy(cells[cell], found.thing(i));
                         found.add(made, made);
                     }
                 }
             }
         }
 
-        private int made(int colouring, int move) {
+        private int madeBy(int move, int colouring) {
             int result = 0;
             int rest = colouring;
             for (int p = 0; p < n; p++) {

@@ -869,6 +869,10 @@ public final class PromisesTest {
         promise = 40;
         same("together over two pieces", apart.together(1, 0, 3), 9);
         same("together with one that stays", apart.together(1, 0, 6), 71);
+        Swaphouse back = withPoints(7);
+        back.turn(0, -1);
+        same("together of what spreads step by step", back.together(1, 0, 1), 127);
+        same("together of what spreads step by step", back.together(1, 3, 0), 127);
         promise = 41;
         same("blocks over two pieces", apart.blocks(1, 0, 3), 4);
         same("blocks with one that stays", apart.blocks(1, 0, 6), 4);
