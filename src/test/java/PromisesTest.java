@@ -624,6 +624,12 @@ public final class PromisesTest {
             y.exchange(5, 0, 1);
             same("size of all moves", y.size(48, 4), factorial);
         }
+        Swaphouse three = withPoints(3);
+        three.exchange(0, 1, 2);
+        three.exchange(1, 0, 1);
+        for (int row = 0; row < 3; row++) {
+            same("size by each row", three.size(3, row), 6);
+        }
         Swaphouse fano = withPoints(7);
         fano.turn(0, 1);
         fano.lay(1, 0);
