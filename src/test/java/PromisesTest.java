@@ -1,22 +1,5 @@
 /** Answers worked out by hand from the document, promise by promise. */
-public final class PromisesTest {
-    private static final Class<? extends RuntimeException> INDEX = IndexOutOfBoundsException.class;
-    private static final Class<? extends RuntimeException> ARGUMENT = IllegalArgumentException.class;
-    private static final int[] NO_CELLS = {-1, 6, Integer.MIN_VALUE, Integer.MAX_VALUE};
-    private static final int[] NO_SETS = {-1, 64, Integer.MIN_VALUE, Integer.MAX_VALUE};
-
-    private static int asked = 0;
-    private static int wrong = 0;
-    private static int promise = 0;
-
-    private interface Call {
-        void make();
-    }
-
-    private interface CallWith {
-        void make(int value);
-    }
-
+public final class PromisesTest extends Checks {
     public static void main(String[] args) {
         movesMade();
         movesAsked();
@@ -24,80 +7,7 @@ public final class PromisesTest {
         wholeAsked();
         actsAreCounted();
         wrongArgumentsComeInSequence();
-        System.out.println("PromisesTest: " + asked + " answers, " + wrong + " of them wrong");
-        if (wrong != 0) {
-            System.exit(1);
-        }
-    }
-
-    // Help
-
-    private static void same(String what, Object got, Object want) {
-        asked++;
-        if (!want.equals(got)) {
-            wrong++;
-            System.out.println("promise " + promise + ": " + what + " answered " + got + ", due is " + want);
-        }
-    }
-
-    /** The call throws that exception, and all stays as it was. */
-    private static void refuses(Swaphouse x, Class<? extends RuntimeException> want, Call call) {
-        long before = x.digest();
-        Object got = "nothing";
-        try {
-            call.make();
-        } catch (RuntimeException e) {
-            got = e.getClass();
-        }
-        same("exception", got, want);
-        same("digest behind an exception", x.digest(), before);
-    }
-
-    private static void refusesEach(Swaphouse x, Class<? extends RuntimeException> want, int[] values, CallWith call) {
-        for (int value : values) {
-            refuses(x, want, () -> call.make(value));
-        }
-    }
-
-    private static void refusesCells(Swaphouse x, CallWith call) {
-        refusesEach(x, INDEX, NO_CELLS, call);
-    }
-
-    private static void refusesSets(Swaphouse x, CallWith call) {
-        refusesEach(x, ARGUMENT, NO_SETS, call);
-    }
-
-    private static void refusesPoints(Swaphouse x, CallWith call) {
-        refusesEach(x, INDEX, new int[] {-1, x.count(), 7, Integer.MIN_VALUE, Integer.MAX_VALUE}, call);
-    }
-
-    /** The call is no ACT: nothing of what it could change is another one behind it. */
-    private static void changesNothing(Swaphouse x, Call call) {
-        long before = x.digest();
-        call.make();
-        same("digest behind a question", x.digest(), before);
-    }
-
-    private static Swaphouse withPoints(int many) {
-        Swaphouse x = new Swaphouse();
-        x.points(many);
-        return x;
-    }
-
-    /** Four points: cell 0 turned by one, cell 1 mirrored: together the eight moves of a square. */
-    private static Swaphouse square() {
-        Swaphouse x = new Swaphouse();
-        x.turn(0, 1);
-        x.mirror(1);
-        return x;
-    }
-
-    /** Six points, turned and mirrored: the twelve moves of a hexagon. */
-    private static Swaphouse hexagon() {
-        Swaphouse x = withPoints(6);
-        x.turn(0, 1);
-        x.mirror(1);
-        return x;
+        finish("PromisesTest");
     }
 
     // Promises 1 to 15

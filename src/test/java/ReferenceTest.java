@@ -1,12 +1,10 @@
-import java.lang.reflect.InvocationTargetException;
-import java.lang.reflect.Method;
 import java.util.ArrayList;
 import java.util.Arrays;
 import java.util.List;
 import java.util.Random;
 
 /** Long runs of calls, right and wrong ones, each answer next to that of the slow Reference. */
-public final class ReferenceTest {
+public final class ReferenceTest extends Checks {
     private static final int CALLS = 512;
     private static final int RUNS_PER_POINTS = 12;
 
@@ -30,7 +28,7 @@ public final class ReferenceTest {
         random = new Random(seed);
     }
 
-    public static void main(String[] args) throws Exception {
+    public static void main(String[] args) {
         int runs = 0;
         for (int many = 2; many <= 7; many++) {
             for (int i = 0; i < RUNS_PER_POINTS; i++) {
@@ -41,7 +39,7 @@ public final class ReferenceTest {
         System.out.println("ReferenceTest: " + runs + " runs of " + CALLS + " calls agree with the reference");
     }
 
-    private void run(int many) throws Exception {
+    private void run(int many) {
         // A run in which few moves are laid has small groups, one with many has large ones.
         boolean tame = random.nextBoolean();
         call("points", new int[] {many});
@@ -84,11 +82,7 @@ public final class ReferenceTest {
         }
     }
 
-    private static int factorial(int n) {
-        return n < 2 ? 1 : n * factorial(n - 1);
-    }
-
-    private void call(String name, int[] values) throws Exception {
+    private void call(String name, int[] values) {
         String call = name + Arrays.toString(values);
         calls.add(call);
         Object got = answer(house, name, values);
@@ -97,21 +91,6 @@ public final class ReferenceTest {
             calls.forEach(System.out::println);
             System.out.println(call + " answered " + got + ", due is " + want);
             System.exit(1);
-        }
-    }
-
-    private static Object answer(Object target, String name, int[] values) throws Exception {
-        Class<?>[] kinds = new Class<?>[values.length];
-        Arrays.fill(kinds, int.class);
-        Method method = target.getClass().getDeclaredMethod(name, kinds);
-        method.setAccessible(true);
-        try {
-            return method.invoke(target, Arrays.stream(values).boxed().toArray());
-        } catch (InvocationTargetException e) {
-            if (e.getCause() instanceof Error) {
-                throw e;
-            }
-            return e.getCause().getClass();
         }
     }
 }

@@ -2,7 +2,7 @@ import com.sun.management.ThreadMXBean;
 import java.lang.management.ManagementFactory;
 
 /** How much of the room an object takes, and the calls that make the longest texts. */
-public final class RoomTest {
+public final class RoomTest extends Checks {
     private static final long OBJECT_BYTES = 60_000;
     private static final long CALL_BYTES = 1_500;
 
@@ -10,10 +10,10 @@ public final class RoomTest {
     private static int wrong = 0;
 
     public static void main(String[] args) {
-        Swaphouse x = allMoves();
+        Swaphouse x = allMoves(7);
         ask(x);
         long atStart = used();
-        x = allMoves();
+        x = allMoves(7);
         long made = used();
         for (int i = 0; i < 100; i++) {
             ask(x);
@@ -26,14 +26,6 @@ public final class RoomTest {
         if (wrong != 0) {
             System.exit(1);
         }
-    }
-
-    private static Swaphouse allMoves() {
-        Swaphouse x = new Swaphouse();
-        x.points(7);
-        x.turn(0, 1);
-        x.exchange(1, 0, 1);
-        return x;
     }
 
     private static void ask(Swaphouse x) {
