@@ -5,6 +5,8 @@ import java.lang.management.ManagementFactory;
 public final class RoomTest extends Checks {
     private static final long OBJECT_BYTES = 60_000;
     private static final long CALL_BYTES = 1_500;
+    private static final int ROUNDS = 80;
+    private static final int CALLS_A_ROUND = 6;
 
     private static final ThreadMXBean THREADS = (ThreadMXBean) ManagementFactory.getThreadMXBean();
     private static int wrong = 0;
@@ -15,14 +17,14 @@ public final class RoomTest extends Checks {
         long atStart = used();
         x = allMoves(7);
         long made = used();
-        for (int i = 0; i < 100; i++) {
+        for (int i = 0; i < ROUNDS; i++) {
             ask(x);
         }
         long asked = used();
         atMost("an object", made - atStart, OBJECT_BYTES);
-        atMost("a call", (asked - made) / 600, CALL_BYTES);
+        atMost("a call", (asked - made) / (ROUNDS * CALLS_A_ROUND), CALL_BYTES);
         System.out.println("RoomTest: " + (made - atStart) + " bytes an object, "
-                + (asked - made) / 600 + " bytes a call of the dearest");
+                + (asked - made) / (ROUNDS * CALLS_A_ROUND) + " bytes a call of the dearest");
         if (wrong != 0) {
             System.exit(1);
         }
