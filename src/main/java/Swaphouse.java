@@ -571,7 +571,7 @@ public final class Swaphouse {
             return move & ~(7 << 3 * point) | goal << 3 * point;
         }
 
-        /** The MOVE «first, then second». */
+        /** The MOVE that is: first, then second. */
         static int both(int first, int second) {
             int result = 0;
             for (int shift = 0; shift < 3 * MOST_POINTS; shift += 3) {
@@ -842,7 +842,7 @@ public final class Swaphouse {
             return rank;
         }
 
-        /** Of all MOVES «A, then last» with A in the GROUP, the one of which so many are ahead by the ROW. */
+        /** Of all MOVES that are A, then last, with A in the GROUP: the one of which so many are ahead by the ROW. */
         int moveAt(int rank, int last) {
             int rest = rank;
             int built = last;
@@ -862,12 +862,14 @@ public final class Swaphouse {
             for (int level = 0; level < n; level++) {
                 int point = Move.goal(row, level);
                 int goal = Move.goal(rest, point);
+                int place = place(level, goal);
                 if (!has(reaches[level], goal)) {
-                    addStep(level, goal, rest, Move.undone(rest));
+                    reaches[level] |= 1 << goal;
+                    addStep(place, rest, Move.undone(rest));
                     return true;
                 }
                 if (goal != point) {
-                    rest = Move.both(rest, stepsUndone[place(level, goal)]);
+                    rest = Move.both(rest, stepsUndone[place]);
                 }
             }
             return false;
@@ -883,10 +885,9 @@ public final class Swaphouse {
             }
         }
 
-        private void addStep(int level, int goal, int move, int undone) {
-            reaches[level] |= 1 << goal;
-            steps[place(level, goal)] = move;
-            stepsUndone[place(level, goal)] = undone;
+        private void addStep(int place, int move, int undone) {
+            steps[place] = move;
+            stepsUndone[place] = undone;
             if (knownSteps < MOST_STEPS) {
                 known[knownSteps] = move;
                 knownSteps++;
@@ -926,10 +927,15 @@ public final class Swaphouse {
 
         /** Whether the thing with that mark is a new one. */
         boolean add(int thing, int mark) {
-            if (mark < 0 || mark >= things.length || isMarked(mark) || many >= things.length) {
+            if (mark < 0 || mark >= things.length || many >= things.length) {
                 return false;
             }
-            marks[mark / BITS] |= 1 << mark % BITS;
+            int place = mark / BITS;
+            int bit = mark % BITS;
+            if (has(marks[place], bit)) {
+                return false;
+            }
+            marks[place] |= 1 << bit;
             things[many] = thing;
             many++;
             return true;
