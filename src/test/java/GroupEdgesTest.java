@@ -26,6 +26,8 @@ public final class GroupEdgesTest extends Checks {
         share();
         blocksOfTheSame();
         blocksAtTheLastPoints();
+        blocksThatSpreadFromCellToCell();
+        blocksThatSpreadAlongRings();
         isTwofold();
         enough();
         enoughLooksByRisingNumbers();
@@ -505,6 +507,47 @@ public final class GroupEdgesTest extends Checks {
             refusesEach(x, INDEX, none, point -> x.blocks(3, point, last));
             refusesEach(x, INDEX, none, point -> x.blocks(3, last, point));
             refusesEach(x, INDEX, none, point -> x.blocks(3, point, point));
+        }
+    }
+
+    private static void blocksThatSpreadFromCellToCell() {
+        says(40, "KEPT, if each MOVE of the GROUP brings POINTS that are together in it to POINTS that are together");
+        for (int first = 0; first <= 4; first += 4) {
+            Swaphouse x = withPoints(7);
+            for (int k = 0; k < 5; k++) {
+                x.exchange(Math.abs(first - k), k, k + 1);
+            }
+            for (int point = 0; point < 6; point++) {
+                same("together with the one that stays", x.together(31, point, 6), 127);
+                same("together with the one that stays", x.together(31, 6, point), 127);
+                same("blocks with the one that stays", x.blocks(31, point, 6), 1);
+                same("together with the next one", x.together(31, point, (point + 1) % 6), 63);
+                same("blocks with the next one", x.blocks(31, point, (point + 1) % 6), 2);
+            }
+        }
+    }
+
+    private static void blocksThatSpreadAlongRings() {
+        says(41, "of all KEPT partings in which these two are together that with the most parts");
+        Swaphouse x = withPoints(7);
+        int[][] rings = {{0, 1, 3}, {2, 6, 5, 4}};
+        x.ring(0, 0, 1, 3);
+        x.ring(0, 2, 6, 5);
+        x.exchange(0, 2, 4);
+        same("text", x.text(0), "1 3 6 0 2 4 5");
+        for (int three : rings[0]) {
+            for (int four : rings[1]) {
+                same("together over a ring of three and one of four", x.together(1, three, four), 127);
+                same("blocks over a ring of three and one of four", x.blocks(1, four, three), 1);
+            }
+        }
+        for (int i = 0; i < 4; i++) {
+            int[] ring = rings[1];
+            same("together with the next one but one", x.together(1, ring[i], ring[(i + 2) % 4]),
+                    1 << ring[i] | 1 << ring[(i + 2) % 4]);
+            same("blocks with the next one but one", x.blocks(1, ring[i], ring[(i + 2) % 4]), 5);
+            same("together with the next one", x.together(1, ring[i], ring[(i + 1) % 4]), 116);
+            same("blocks with the next one", x.blocks(1, ring[i], ring[(i + 1) % 4]), 4);
         }
     }
 
